@@ -13,6 +13,7 @@ public final class AfterJobTest {
             filesOutputAndPlacesStay(ENDS[i], OUTCOMES[i]);
         }
         stackMarksAndLoopsBeginAnew();
+        allHandlesAreAsBefore();
         othersAreNotClosedByJobs();
         handlesMayBeOpenedAnewInAJob();
         Check.end();
@@ -97,6 +98,25 @@ public final class AfterJobTest {
         Check.ended(x, job, "marks and loops anew", 1, 0, 0, 1, 13, 0);
         Check.pages(x, job, "s", 0);
         Check.fails(x, "}", 1, 0, 1);
+    }
+
+    private static void allHandlesAreAsBefore() {
+        MachineLoop x = new MachineLoop(1000);
+        int job = Check.ran(x, "01o11o21o31o41o51o");
+        Check.ended(x, job, "all handles", 1, 0, 0, 0, 18, 0);
+        for (int handle = 2; handle <= 7; handle++) {
+            Check.same("close(" + handle + ") of the job", x.close(handle), -1);
+        }
+        for (int name = 0; name < 6; name++) {
+            Check.same("file(" + name + ", 1)", x.file(name, 1), name + 2);
+        }
+        Check.same("file(5, 0) that handle 7 writes", x.file(5, 0), -3);
+        x.filter(7, 3);
+        Check.same("a handle is free", x.close(4), 1);
+        Check.same("file(5, 0) that handle 7 still writes", x.file(5, 0), -3);
+        Check.ran(x, "73f33f");
+        Check.same("filter(7, 1) is the second", x.filter(7, 1), 2);
+        Check.same("filter(3, 1) is the first", x.filter(3, 1), 1);
     }
 
     private static void othersAreNotClosedByJobs() {

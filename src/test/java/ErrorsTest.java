@@ -125,6 +125,7 @@ public final class ErrorsTest {
         int full = Check.ran(x, "4t{1ms}");
         Check.ended(x, full, "40 pages", 1, 0, 0, 40, 3 + 40 * 4, 0);
         Check.same("page 39", x.page(full, 39), 1);
+        Check.same("page 40", x.page(full, 40), 0);
         int over = Check.fails(x, "4t1+{2ms}s", 6, 7, 5 + 40 * 4 + 3);
         Check.same("pages", x.ended(over, 3), 40);
         int copies = Check.fails(x, "19g4{3ms}5ms", 6, 11, 5 + 4 * 4 + 3);

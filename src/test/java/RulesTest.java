@@ -7,8 +7,8 @@ import java.util.regex.Pattern;
 /** What can be seen of LANGUAGE.md in the text of the program: words that it may not hold. */
 public final class RulesTest {
     private static final String[] FORBIDDEN = {
-        "\\b(throw|throws|try|catch|synchronized|assert|package|import|protected|volatile|native)\\b",
-        "->", "::", "\\b(Thread|Random|Object|hashCode|equals|toString|System\\.(?!arraycopy))\\b",
+        "\\b(throw|throws|try|catch|synchronized|assert|package|protected|volatile|native)\\b",
+        "\\bimport (?!java\\.util\\.(ArrayList|List|Arrays|Iterator);)", "->", "::", "\\b(Thread|Random|Object|hashCode|equals|toString|System\\.(?!arraycopy))\\b",
         "\\bstatic (?!final\\b)(?!int \\w+\\()(?!class\\b)", "\\bwhile *\\(true\\)", "\\w+Exact\\b"};
 
     public static void main(String[] args) throws IOException {
