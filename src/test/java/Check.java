@@ -1,7 +1,5 @@
 /** What every test of the project uses: answers compared with those that are due, and counted. */
 final class Check {
-    private static final int MOST_CALLS = 512;
-
     private static int wrong = 0;
 
     private Check() {
@@ -26,10 +24,6 @@ final class Check {
     }
 
     static void addTo(MachineLoop x, int job, String signs) {
-        if (signs.length() > MOST_CALLS) {
-            wrong++;
-            System.out.println("the test makes more calls than the document promises answers for");
-        }
         for (int i = 0; i < signs.length(); i++) {
             x.add(job, (byte) signs.charAt(i));
         }

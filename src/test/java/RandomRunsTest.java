@@ -9,7 +9,8 @@ import java.util.Map;
  */
 public final class RandomRunsTest {
     private static final int OBJECTS = 4000;
-    private static final int MOST_CALLS = 512;
+    /** So few that those which compare the state at the end stay within the 512 that are promised. */
+    private static final int MOST_CALLS = 512 - 90;
     private static final String[] PIECES = {
         "0", "1", "2", "3", "7", "9", "t", "+", "-", "*", "d", "x", "p", "m", "s", "1m", "5ms", "d m", "12g", "13g", "11g",
         "31g", "30g", "19g", "10g", "44g", "02g", "g", "12R", "125D", "3D", "R", "D", "01R", "019D", "01o", "11o", "12o",
@@ -37,10 +38,13 @@ public final class RandomRunsTest {
         Plain y = new Plain(steps);
         int calls = 0;
         int jobs = 0;
-        while (calls < MOST_CALLS - 90) {
+        while (calls < MOST_CALLS) {
             int kind = below(14);
             if (kind == 0) {
                 String signs = signs();
+                if (calls + 1 + signs.length() > MOST_CALLS) {
+                    break;
+                }
                 Check.same(object + " job()", x.job(), y.job());
                 for (int i = 0; i < signs.length(); i++) {
                     byte b = (byte) signs.charAt(i);
