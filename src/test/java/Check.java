@@ -73,6 +73,31 @@ final class Check {
         same("page behind the last of " + signs, x.page(job, marks.length), 0);
     }
 
+    /** Signs that lay this number on the stack, for which it needs room for two. */
+    static String number(int v) {
+        String digits = Long.toString(Math.abs((long) v));
+        StringBuilder signs = new StringBuilder(v < 0 ? "0" : "").append(digits.charAt(0));
+        for (int i = 1; i < digits.length(); i++) {
+            signs.append('t').append(digits.charAt(i)).append('+');
+        }
+        return signs.append(v < 0 ? "-" : "").toString();
+    }
+
+    /** The job ends so if it may take just these steps, and stops if it may take one less. */
+    static void takes(String signs, int steps, int outcome) {
+        MachineLoop enough = new MachineLoop(steps);
+        int job = ran(enough, signs);
+        same("ended(0) of " + signs + " with " + steps, enough.ended(job, 0), outcome);
+        same("ended(4) of " + signs + " with " + steps, enough.ended(job, 4), steps);
+        if (steps > 0) {
+            MachineLoop oneLess = new MachineLoop(steps - 1);
+            int stopped = ran(oneLess, signs);
+            ended(oneLess, stopped, signs + " with one step less", 3, 0, 0);
+            same("ended(4) of " + signs + " with one step less", oneLess.ended(stopped, 4), steps - 1);
+            same("ended(5) of " + signs + " with one step less", oneLess.ended(stopped, 5), 0);
+        }
+    }
+
     static String times(int count, String text) {
         return text.repeat(count);
     }
