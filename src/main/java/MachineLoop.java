@@ -696,7 +696,7 @@ public final class MachineLoop {
             for (int i = 0; i < length; i++) {
                 mates[i] = NONE;
                 int sign = doneFrom[i] == i ? job.signAt(i) : NONE;
-                if (sign == '{') {
+                if (sign == '{' && openCount < MOST_SIGNS) {
                     openBraces[openCount] = i;
                     openCount++;
                 } else if (sign == '}' && openCount > 0) {

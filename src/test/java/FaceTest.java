@@ -32,7 +32,33 @@ public final class FaceTest {
         Check.same("it is public", Modifier.isPublic(made[0].getModifiers()), true);
         int kind = MachineLoop.class.getModifiers();
         Check.same("public final class", Modifier.isPublic(kind) && Modifier.isFinal(kind), true);
+        classesInside();
         Check.end();
+    }
+
+    /** LANGUAGE.md, rules 1, 2 and 11. */
+    private static void classesInside() {
+        Class<?>[] inside = MachineLoop.class.getDeclaredClasses();
+        Check.same("at most twelve classes", inside.length < 12, true);
+        Set<String> names = new TreeSet<>();
+        for (Method m : MachineLoop.class.getDeclaredMethods()) {
+            if (Modifier.isPublic(m.getModifiers())) {
+                names.add(m.getName());
+            }
+        }
+        for (Class<?> c : inside) {
+            Check.same("static " + c, Modifier.isStatic(c.getModifiers()), true);
+            Check.same("private or package-visible " + c, (c.getModifiers() & (Modifier.PUBLIC | Modifier.PROTECTED)) == 0, true);
+            Check.same("at most twenty fields in " + c, c.getDeclaredFields().length <= 20, true);
+            for (Method m : c.getDeclaredMethods()) {
+                Check.same("a name of its own: " + m, names.contains(m.getName()), false);
+                Check.same("at most seven parameters: " + m, m.getParameterCount() <= 7, true);
+            }
+        }
+        for (Method m : MachineLoop.class.getDeclaredMethods()) {
+            boolean isPublic = Modifier.isPublic(m.getModifiers());
+            Check.same("a name of its own: " + m, isPublic || !names.contains(m.getName()), true);
+        }
     }
 
     private static String told(Method m) {
