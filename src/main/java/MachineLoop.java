@@ -534,7 +534,11 @@ public final class MachineLoop {
         /** A job may shut its own handles alone. */
         int shutByJob(int number) {
             Handle handle = openOrNull(number);
-            return handle == null || !handle.isOfJob ? UNKNOWN : shut(number);
+            if (handle == null || !handle.isOfJob) {
+                return UNKNOWN;
+            }
+            handle.detach();
+            return DONE;
         }
 
         int outputByte(int i) {
@@ -582,7 +586,7 @@ public final class MachineLoop {
         /** Many may read a file at once, but who writes it has it alone. */
         private boolean isHeldAgainst(Store store, int mode) {
             for (int i = OUTPUT_HANDLE + 1; i <= LAST_HANDLE; i++) {
-                Handle handle = openOrNull(i);
+                Handle handle = handleOrNull(i);
                 if (handle != null && handle.store == store
                         && (mode != READING || handle.mode != READING)) {
                     return true;
@@ -593,7 +597,8 @@ public final class MachineLoop {
 
         private int freeHandle() {
             for (int i = OUTPUT_HANDLE + 1; i <= LAST_HANDLE; i++) {
-                if (openOrNull(i) == null) {
+                Handle handle = handleOrNull(i);
+                if (handle != null && handle.store == null) {
                     return i;
                 }
             }
